@@ -1,0 +1,50 @@
+/** Counts the checks of a test, prints those that fail, and ends the test's program. */
+final class Due {
+    private int passed;
+    private int failed;
+
+    void same(String what, long got, long want) {
+        check(got == want, what + " answered " + got + ", due is " + want);
+    }
+
+    void same(String what, String got, String want) {
+        check(got.equals(want), what + " answered " + got + ", due is " + want);
+    }
+
+    void illegalArgument(String what, Runnable call) {
+        same(what, outcome(call), "IllegalArgumentException");
+    }
+
+    void illegalState(String what, Runnable call) {
+        same(what, outcome(call), "IllegalStateException");
+    }
+
+    void noSuchPlace(String what, Runnable call) {
+        same(what, outcome(call), "IndexOutOfBoundsException");
+    }
+
+    void end(String test) {
+        System.out.println(test + ": " + passed + " passed, " + failed + " failed");
+        if (failed != 0 || passed == 0) {
+            System.exit(1);
+        }
+    }
+
+    private static String outcome(Runnable call) {
+        try {
+            call.run();
+            return "no exception";
+        } catch (RuntimeException thrown) {
+            return thrown.getClass().getSimpleName();
+        }
+    }
+
+    private void check(boolean holds, String complaint) {
+        if (holds) {
+            passed++;
+        } else {
+            failed++;
+            System.out.println(complaint);
+        }
+    }
+}
