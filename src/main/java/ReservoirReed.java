@@ -277,7 +277,8 @@ public final class ReservoirReed {
         return divisor > 0 ? value / divisor : 0;
     }
 
-    // The entry at end - 1 is pushed out: the rows have no place for more than a sample needs.
+    // The end is the one behind the new entry: where a sample is full already and its end stays,
+    // the last entry is pushed out.
     private static void insert(int[] row, int place, int end, int value) {
         for (int i = end - 1; i > place; i--) {
             put(row, i, at(row, i - 1));

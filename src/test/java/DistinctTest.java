@@ -76,8 +76,10 @@ public final class DistinctTest {
         due.same("21: more than k", x.distinctEstimate(0), 2 * (1L << 32) / 1013904227L);
         x.begin(2, 8);
         x.offer(0, 0, 1, 0, 0, 0);
-        x.offer(0, 144, 1, 0, 0, 0);
-        due.same("21: a small hash", x.distinctEstimate(0), (1L << 32) / (144L * 2654435761L % (1L << 32) + 1));
+        x.offer(0, 364789, 1, 0, 0, 0);
+        due.same("21: the hash 1638", x.distinctEstimate(0), 2622080);
+        x.offer(0, 364789, 1, 0, 0, 0);
+        due.same("21: an item counts once", x.distinctEstimate(0), 2622080);
     }
 
     private static void merged() {

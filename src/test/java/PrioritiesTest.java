@@ -9,6 +9,8 @@ public final class PrioritiesTest {
         nearlyEqualPriorities();
         thresholdAndEstimates();
         merged();
+        emptiedAndFilled();
+        greatestSize();
         greatestNumbers();
         wrongCalls();
         due.end("PrioritiesTest");
@@ -114,6 +116,32 @@ public final class PrioritiesTest {
         items("one alone is as it was", x, 0, 1);
         x.clear(1);
         items("both, one of them empty", x, 2, 1);
+    }
+
+    private static void emptiedAndFilled() {
+        ReservoirReed x = new ReservoirReed();
+        x.begin(2, 8);
+        x.offer(0, 1, 3, 0, 0, 0);
+        x.offer(0, 2, 2, 0, 0, 0);
+        x.offer(0, 3, 1, 0, 0, 0);
+        due.same("15: three offers", x.threshold(0), 1L << 31);
+        due.same("15: three offers in both", x.threshold(2), 1L << 31);
+        x.clear(0);
+        x.offer(0, 4, 3, 0, 0, 0);
+        x.offer(0, 5, 2, 0, 0, 0);
+        due.same("15: nothing is left from before", x.threshold(0), 0);
+        due.same("15: nothing is left from before in both", x.threshold(2), 0);
+        items("nothing is left from before", x, 0, 4, 5);
+    }
+
+    private static void greatestSize() {
+        ReservoirReed x = new ReservoirReed();
+        x.begin(16, 8);
+        for (int i = 1; i <= 18; i++) {
+            x.offer(0, i, 1 + i % 2, 0, i, 0);
+        }
+        due.same("15: the seventeenth is 1 / 17", x.threshold(0), (1L << 31) / 17);
+        items("sixteen", x, 0, 1, 3, 2, 5, 7, 4, 9, 11, 6, 13, 15, 8, 17, 10, 12, 14);
     }
 
     private static void greatestNumbers() {

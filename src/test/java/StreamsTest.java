@@ -11,6 +11,7 @@ public final class StreamsTest {
         offerOutOfRange();
         offerToAFullStream();
         clear();
+        everyGroupIsEmptied();
         offers();
         exactWeight();
         due.end("StreamsTest");
@@ -145,6 +146,35 @@ public final class StreamsTest {
         due.same("4: clear an empty stream", x.clear(0), 0);
         due.same("4: positions from 1 again", x.offer(0, 1, 1, 0, 0, 0), 1);
         due.same("4: size is kept", x.prioritySize(2), 2);
+    }
+
+    private static void everyGroupIsEmptied() {
+        ReservoirReed x = new ReservoirReed();
+        for (int stream = 0; stream <= 1; stream++) {
+            for (int group = 0; group <= 3; group++) {
+                x.offer(stream, 1, 5 + group, group, 0, 0);
+            }
+        }
+        for (int group = 0; group <= 3; group++) {
+            due.same("6: each group by itself", x.exactWeight(2, group), 10 + 2 * group);
+        }
+        x.clear(0);
+        for (int group = 0; group <= 3; group++) {
+            due.same("4: clear, offers of a group", x.groupOffers(0, group), 0);
+            due.same("4: clear, weight of a group", x.exactWeight(0, group), 0);
+            due.same("4: clear, the other stream", x.exactWeight(2, group), 5 + group);
+        }
+        x.begin(2, 8);
+        for (int group = 0; group <= 3; group++) {
+            due.same("2: begin, offers of a group", x.groupOffers(1, group), 0);
+            due.same("2: begin, weight of a group", x.exactWeight(1, group), 0);
+            x.offer(0, 1, 1, group, 1, 0);
+            x.offer(0, 2, 1, group, 1, 0);
+            x.offer(0, 3, 1, group, 2, 0);
+            int asked = group;
+            due.noSuchPlace("2: begin, size of a group", () -> x.groupItem(0, asked, 2));
+            due.same("2: begin, size of a group", x.groupItem(0, asked, 1), 2);
+        }
     }
 
     private static void offers() {
