@@ -2,6 +2,12 @@
 final class Due {
     private int passed;
     private int failed;
+    private String about = "";
+
+    /** Tells what the next checks look at: that stands in front of what they print. */
+    void about(String what) {
+        about = what + ": ";
+    }
 
     void same(String what, long got, long want) {
         check(got == want, what + " answered " + got + ", due is " + want);
@@ -44,7 +50,7 @@ final class Due {
             passed++;
         } else {
             failed++;
-            System.out.println(complaint);
+            System.out.println(about + complaint);
         }
     }
 }

@@ -1,6 +1,3 @@
-import java.lang.reflect.InvocationTargetException;
-import java.lang.reflect.Method;
-import java.util.Arrays;
 import java.util.Random;
 
 /** Promises 1 to 25: runs of mixed calls, each answer compared with the model's. */
@@ -15,7 +12,7 @@ public final class ModelTest {
     private static final Due due = new Due();
 
     private final Random random;
-    private final ReservoirReed object = new ReservoirReed();
+    private final Played object = new Played();
     private final Model model = new Model();
     private final int mostItem;
     private final int mostWeight;
@@ -31,7 +28,7 @@ public final class ModelTest {
         offersInTen = pick(2, 5, 8, 9);
     }
 
-    public static void main(String[] args) throws ReflectiveOperationException {
+    public static void main(String[] args) {
         for (int seed = 1; seed <= RUNS; seed++) {
             new ModelTest(seed).run(seed);
         }
@@ -51,7 +48,7 @@ public final class ModelTest {
         return random.nextInt(100) == 0 ? wrong : value;
     }
 
-    private void run(int seed) throws ReflectiveOperationException {
+    private void run(int seed) {
         // Half of the runs keep to one stream and never empty it, so that it gets full.
         boolean steady = seed % 2 == 0;
         int mostStream = steady && seed % 4 == 0 ? 0 : 1;
@@ -70,7 +67,7 @@ public final class ModelTest {
         }
     }
 
-    private void begin(int seed) throws ReflectiveOperationException {
+    private void begin(int seed) {
         int size = seldomWrong(pick(2, 3, 4, 16, 2 + upTo(14)), pick(1, 17));
         int window = seldomWrong(pick(1, 2, 8, 64, 1 + upTo(63)), pick(0, 65));
         if (size >= 2 && size <= 16 && window >= 1 && window <= 64) {
@@ -79,7 +76,7 @@ public final class ModelTest {
         compare(seed, "begin", size, window);
     }
 
-    private void offer(int seed, int mostStream) throws ReflectiveOperationException {
+    private void offer(int seed, int mostStream) {
         compare(seed, "offer",
             seldomWrong(upTo(mostStream), pick(-1, 2)),
             seldomWrong(upTo(mostItem), pick(-1, 1000001)),
@@ -89,7 +86,7 @@ public final class ModelTest {
             seldomWrong(pick(upTo(mostDie), upTo(64)), pick(-1, Integer.MIN_VALUE)));
     }
 
-    private void ask(int seed, String question) throws ReflectiveOperationException {
+    private void ask(int seed, String question) {
         int stream = seldomWrong(upTo(2), pick(-1, 3));
         int group = seldomWrong(upTo(3), pick(-1, 4));
         int place = seldomWrong(upTo(k), pick(-1, Integer.MAX_VALUE));
@@ -109,20 +106,8 @@ public final class ModelTest {
         }
     }
 
-    private void compare(int seed, String call, int... arguments) throws ReflectiveOperationException {
-        String what = "seed " + seed + ": " + call + Arrays.toString(arguments);
-        due.same(what, answer(call, arguments), model.answer(call, arguments));
-    }
-
-    private String answer(String call, int[] arguments) throws ReflectiveOperationException {
-        Class<?>[] types = new Class<?>[arguments.length];
-        Arrays.fill(types, int.class);
-        Method method = ReservoirReed.class.getMethod(call, types);
-        try {
-            Object answer = method.invoke(object, Arrays.stream(arguments).boxed().toArray());
-            return answer == null ? "nothing" : answer.toString();
-        } catch (InvocationTargetException thrown) {
-            return "throws." + thrown.getCause().getClass().getSimpleName();
-        }
+    private void compare(int seed, String name, int... arguments) {
+        Call call = new Call(name, arguments);
+        due.same("seed " + seed + ": " + call, object.answer(call), model.answer(name, arguments));
     }
 }

@@ -1,0 +1,41 @@
+import java.util.List;
+
+/** Tests of the document's edges: each names the promises and the sentence that it looks at. */
+abstract class Edges {
+    static final int MOST = Integer.MAX_VALUE;
+    static final int LEAST = Integer.MIN_VALUE;
+
+    final Due due;
+    private final Document document;
+
+    Edges(Due due, Document document) {
+        this.due = due;
+        this.document = document;
+    }
+
+    abstract void run();
+
+    void whatItIs(String promises, String sentence) {
+        due.about("promises " + promises + ": " + document.named("What it is", sentence));
+    }
+
+    void terms(String promises, String sentence) {
+        due.about("promises " + promises + ": " + document.named("Terms", sentence));
+    }
+
+    void promise(int number, String sentence) {
+        due.about(document.named("Promise " + number, sentence));
+    }
+
+    static ReservoirReed begun(int size, int window) {
+        ReservoirReed x = new ReservoirReed();
+        x.begin(size, window);
+        return x;
+    }
+
+    void sameAnswers(String what, List<Call> questions, List<String> got, List<String> want) {
+        for (int i = 0; i < questions.size(); i++) {
+            due.same(what + ": " + questions.get(i), got.get(i), want.get(i));
+        }
+    }
+}
