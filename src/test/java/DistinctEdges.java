@@ -1,5 +1,6 @@
 import java.util.Arrays;
 import java.util.Comparator;
+import java.util.List;
 import java.util.stream.IntStream;
 
 /** The edges of the distinct sample, and of promises 18 to 21. */
@@ -18,18 +19,19 @@ final class DistinctEdges extends Edges {
     }
 
     @Override
-    void run() {
-        hashesOrderItems();
-        hashesAreTheDocuments();
-        leastHashes();
-        repeatedItems();
-        noTwoHashesAreTheSame();
-        sampleSize();
-        sampleItems();
-        sampleOffers();
-        estimatesBelowK();
-        estimatesAtKAndBeyond();
-        greatestAndLeastEstimates();
+    List<Runnable> tests() {
+        return List.of(
+            this::hashesOrderItems,
+            this::hashesAreTheDocuments,
+            this::leastHashes,
+            this::repeatedItems,
+            this::noTwoHashesAreTheSame,
+            this::sampleSize,
+            this::sampleItems,
+            this::sampleOffers,
+            this::estimatesBelowK,
+            this::estimatesAtKAndBeyond,
+            this::greatestAndLeastEstimates);
     }
 
     private void order(String what, ReservoirReed x, int stream, int... items) {

@@ -1,12 +1,17 @@
 /** Counts the checks of a test, prints those that fail, and ends the test's program. */
 final class Due {
+    // A broken rule fails in many checks: the first ones about each thing tell enough.
+    private static final int MOST_PRINTED = 20;
+
     private int passed;
     private int failed;
+    private int printed;
     private String about = "";
 
     /** Tells what the next checks look at: that stands in front of what they print. */
     void about(String what) {
         about = what + ": ";
+        printed = 0;
     }
 
     void same(String what, long got, long want) {
@@ -50,7 +55,10 @@ final class Due {
             passed++;
         } else {
             failed++;
-            System.out.println(about + complaint);
+            printed++;
+            if (printed <= MOST_PRINTED) {
+                System.out.println(about + complaint);
+            }
         }
     }
 }

@@ -13,7 +13,19 @@ abstract class Edges {
         this.document = document;
     }
 
-    abstract void run();
+    /** A test that names no sentence itself goes on with the one before it. */
+    abstract List<Runnable> tests();
+
+    // What is thrown where no exception is due is told with the sentence that was looked at.
+    final void run() {
+        for (Runnable test : tests()) {
+            try {
+                test.run();
+            } catch (RuntimeException thrown) {
+                due.same("a call", "throws." + thrown.getClass().getSimpleName(), "no exception");
+            }
+        }
+    }
 
     void whatItIs(String promises, String sentence) {
         due.about("promises " + promises + ": " + document.named("What it is", sentence));

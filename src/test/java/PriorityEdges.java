@@ -1,3 +1,5 @@
+import java.util.List;
+
 /** The edges of the priority sample, and of promises 12 to 17. */
 final class PriorityEdges extends Edges {
     private static final long GREATEST = 1000000L << 31;
@@ -7,23 +9,25 @@ final class PriorityEdges extends Edges {
     }
 
     @Override
-    void run() {
-        priorityIsAFraction();
-        nearlyEqualFractions();
-        fallingPriorityRisingPosition();
-        equalInBothStreams();
-        firstOffersOfTheOrder();
-        thresholdNeedsMoreThanKOffers();
-        thresholdOfBothStreams();
-        thresholdIsThePriorityAtPlaceKPlus1();
-        thresholdIsRoundedDown();
-        estimatedWeightIsTheGreater();
-        sampleSize();
-        sampleItems();
-        estimatedWeights();
-        thresholds();
-        estimates();
-        sampledWeights();
+    List<Runnable> tests() {
+        return List.of(
+            this::priorityIsAFraction,
+            this::nearlyEqualFractions,
+            this::fallingPriorityRisingPosition,
+            this::equalInBothStreams,
+            this::firstOffersOfTheOrder,
+            this::thresholdNeedsMoreThanKOffers,
+            this::thresholdBehindMoreOffers,
+            this::thresholdOfBothStreams,
+            this::thresholdIsThePriorityAtPlaceKPlus1,
+            this::thresholdIsRoundedDown,
+            this::estimatedWeightIsTheGreater,
+            this::sampleSize,
+            this::sampleItems,
+            this::estimatedWeights,
+            this::thresholds,
+            this::estimates,
+            this::sampledWeights);
     }
 
     private void order(String what, ReservoirReed x, int stream, int... items) {
@@ -188,6 +192,32 @@ final class PriorityEdges extends Edges {
                 x.clear(stream);
                 due.same("behind clear, k = " + k, x.threshold(stream), 0);
             }
+        }
+    }
+
+    // Nothing of the longer stream before may be left in the threshold.
+    private void thresholdBehindMoreOffers() {
+        for (int k = 2; k <= 16; k++) {
+            ReservoirReed x = begun(k, 8);
+            for (int again = 0; again < 3; again++) {
+                for (int i = 1; i <= k; i++) {
+                    x.offer(again % 2, i, 5, 0, 0, 0);
+                }
+                due.same("k offers again, k = " + k, x.threshold(again % 2), 0);
+                due.same("k offers again in both, k = " + k, x.threshold(2), 0);
+                due.same("estimatedWeight, k = " + k, x.estimatedWeight(2, k - 1), 5);
+                x.offer(again % 2, 99, 3, 0, 0, 0);
+                x.offer(again % 2, 99, 4, 0, 0, 0);
+                due.same("k + 2 offers again, k = " + k, x.threshold(again % 2), 4L << 31);
+                due.same("k + 2 offers again in both, k = " + k, x.threshold(2), 4L << 31);
+                x.clear(again % 2);
+            }
+            x.offer(0, 1, 5, 0, 0, 0);
+            x.begin(k, 8);
+            for (int i = 1; i <= k; i++) {
+                x.offer(0, i, 5, 0, 0, 0);
+            }
+            due.same("k offers behind begin, k = " + k, x.threshold(0), 0);
         }
     }
 

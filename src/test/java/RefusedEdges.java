@@ -92,15 +92,16 @@ final class RefusedEdges extends Edges {
     }
 
     @Override
-    void run() {
-        argumentsHaveBounds();
-        placesHaveBounds();
-        argumentsOutOfRange();
-        noSuchPlaces();
-        notPossibleNow();
-        eachExceptionHasItsCause();
-        rightOneGoesFirst();
-        nothingChanges();
+    List<Runnable> tests() {
+        return List.of(
+            this::argumentsHaveBounds,
+            this::placesHaveBounds,
+            this::argumentsOutOfRange,
+            this::noSuchPlaces,
+            this::notPossibleNow,
+            this::eachExceptionHasItsCause,
+            this::rightOneGoesFirst,
+            this::nothingChanges);
     }
 
     // ---- what is taken, and the next beyond it
@@ -224,15 +225,26 @@ final class RefusedEdges extends Edges {
     }
 
     private void refused(String name, History state, Call call, String exception) {
-        due.same(name + ": " + call, state.played().answer(call), "throws." + exception);
+        String answer = state.played().answer(call);
+        due.same(name + ": " + call, answer, "throws." + exception);
+        if (!answer.startsWith("throws.")) {
+            return;
+        }
         unchanged(name + ", behind the refused " + call, name, state, state.then(call));
         unchanged(name + ", behind the refused " + call + " and more offers", name + ", and more offers",
             more(state), more(state.then(call)));
+        unchanged(name + ", behind the refused " + call + " and clear", name + ", and clear",
+            more(cleared(state)), more(cleared(state.then(call))));
     }
 
     // A full stream refuses them, which changes nothing either.
     private static History more(History state) {
         return state.offered(0, 5, 21).offered(1, 9, 22);
+    }
+
+    // What k and w are shows again in the streams that are filled anew.
+    private static History cleared(History state) {
+        return state.then("clear", 0).then("clear", 1);
     }
 
     private void unchanged(String what, String name, History before, History behind) {
@@ -315,9 +327,7 @@ final class RefusedEdges extends Edges {
         History behind = before;
         for (Asked asked : all) {
             for (int i = 0; i < asked.bounds.length; i++) {
-                for (int wrong : beyond(asked.bounds[i])) {
-                    behind = behind.then(asked.call.with(i, wrong));
-                }
+                behind = behind.then(asked.call.with(i, asked.bounds[i].least - 1));
             }
         }
         for (Placed placed : PLACED) {
@@ -326,5 +336,7 @@ final class RefusedEdges extends Edges {
         unchanged("every call refused once", "twenty and twenty", before, behind);
         unchanged("every call refused once, and more offers", "twenty and twenty, and more offers", more(before),
             more(behind));
+        unchanged("every call refused once, and clear", "twenty and twenty, and clear", more(cleared(before)),
+            more(cleared(behind)));
     }
 }

@@ -1,3 +1,5 @@
+import java.util.List;
+
 /** The edges of the reservoirs, and of promises 7 to 11. */
 final class ReservoirEdges extends Edges {
     ReservoirEdges(Due due, Document document) {
@@ -5,18 +7,19 @@ final class ReservoirEdges extends Edges {
     }
 
     @Override
-    void run() {
-        kSlots();
-        firstOffersFillTheSlots();
-        laterOffersReplace();
-        laterOffersReplaceAtEveryPosition();
-        groupsHaveReservoirsOfTheirOwn();
-        groupPositionsCountWithinTheGroup();
-        filledSlots();
-        items();
-        positions();
-        groupOffers();
-        groupItems();
+    List<Runnable> tests() {
+        return List.of(
+            this::kSlots,
+            this::firstOffersFillTheSlots,
+            this::laterOffersReplace,
+            this::laterOffersReplaceAtEveryPosition,
+            this::groupsHaveReservoirsOfTheirOwn,
+            this::groupPositionsCountWithinTheGroup,
+            this::filledSlots,
+            this::items,
+            this::positions,
+            this::groupOffers,
+            this::groupItems);
     }
 
     private void kSlots() {

@@ -7,26 +7,27 @@ final class StreamEdges extends Edges {
     }
 
     @Override
-    void run() {
-        diceAreTold();
-        objectIsGoodForAllItsCalls();
-        mergedSamples();
-        streamsAreApart();
-        stream2IsStream0ThenStream1();
-        sameSizeForAllSamples();
-        sameWindow();
-        positionsCountOffers();
-        leastAndGreatestOffer();
-        newObject();
-        beginEmptiesBothStreams();
-        beginTakesSizes();
-        beginTakesWindows();
-        offerAnswersThePosition();
-        offerHasBounds();
-        clearEmptiesOneStream();
-        clearTellsTheOffers();
-        offersAreCounted();
-        exactWeightIsASum();
+    List<Runnable> tests() {
+        return List.of(
+            this::diceAreTold,
+            this::objectIsGoodForAllItsCalls,
+            this::mergedSamples,
+            this::streamsAreApart,
+            this::stream2IsStream0ThenStream1,
+            this::sameSizeForAllSamples,
+            this::sameWindow,
+            this::positionsCountOffers,
+            this::leastAndGreatestOffer,
+            this::newObject,
+            this::beginEmptiesBothStreams,
+            this::beginTakesSizes,
+            this::beginTakesWindows,
+            this::offerAnswersThePosition,
+            this::offerHasBounds,
+            this::clearEmptiesOneStream,
+            this::clearTellsTheOffers,
+            this::offersAreCounted,
+            this::exactWeightIsASum);
     }
 
     private void diceAreTold() {
@@ -34,7 +35,7 @@ final class StreamEdges extends Edges {
             + "reservoir, a reservoir for each group, a sample by weights and priorities with estimates of sums, "
             + "a sample of distinct items with an estimate of their number, and a sample of the latest items by a "
             + "chain.");
-        History history = History.begun(5, 9).offered(0, 120).offered(1, 120);
+        History history = History.begun(5, 9).offered(0, 121).offered(1, 120);
         for (int stream = 0; stream <= 2; stream++) {
             List<Call> questions = Questions.all(stream, 5);
             sameAnswers("the same calls once more", questions, history.answers(questions), history.answers(questions));

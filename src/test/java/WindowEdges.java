@@ -1,3 +1,5 @@
+import java.util.List;
+
 /** The edges of the window sample, and of promises 22 to 25. */
 final class WindowEdges extends Edges {
     WindowEdges(Due due, Document document) {
@@ -5,20 +7,24 @@ final class WindowEdges extends Edges {
     }
 
     @Override
-    void run() {
-        sampleIsTheChainsFirst();
-        sampleIsAmongTheLatest();
-        stepsInTheirOrder();
-        chainStartsAgain();
-        smallerWindowAtTheFirstOffers();
-        successorIsAdded();
-        successorOfEachOffer();
-        firstOneLeaves();
-        neverEmpty();
-        windowItems();
-        windowPositions();
-        chainLengths();
-        successors();
+    List<Runnable> tests() {
+        return List.of(
+            this::sampleIsTheChainsFirst,
+            this::sampleIsAmongTheLatest,
+            this::stepsInTheirOrder,
+            this::chainStartsAgain,
+            this::smallerWindowAtTheFirstOffers,
+            this::successorIsAdded,
+            this::successorOfEachOffer,
+            this::firstOneLeaves,
+            this::neverEmpty,
+            this::windowItems,
+            this::windowItemNeedsAnOffer,
+            this::windowPositions,
+            this::windowPositionNeedsAnOffer,
+            this::chainLengths,
+            this::successors,
+            this::successorNeedsAnOffer);
     }
 
     private void state(String what, ReservoirReed x, int item, int position, int length, int next) {
@@ -204,6 +210,11 @@ final class WindowEdges extends Edges {
         due.same("the greatest item", x.windowItem(0), 1000000);
         x.offer(0, 0, 1, 0, 0, 0);
         due.same("the least item", x.windowItem(0), 0);
+    }
+
+    private void windowItemNeedsAnOffer() {
+        ReservoirReed x = begun(2, 3);
+        x.offer(0, 0, 1, 0, 0, 0);
         promise(22, "Throws IllegalStateException if the stream has had no offers");
         due.illegalState("stream 1", () -> x.windowItem(1));
         x.offer(1, 8, 1, 0, 1, 0);
@@ -224,6 +235,10 @@ final class WindowEdges extends Edges {
         y.offer(0, 1, 1, 0, 0, 0);
         due.same("the greatest position", y.windowPosition(0), 300);
         due.same("the least position", linked(64, 64).windowPosition(0), 1);
+    }
+
+    private void windowPositionNeedsAnOffer() {
+        ReservoirReed x = linked(3, 5);
         promise(23, "Throws IllegalStateException if the stream has had no offers");
         due.illegalState("stream 1", () -> x.windowPosition(1));
         x.offer(1, 8, 1, 0, 1, 0);
@@ -271,6 +286,11 @@ final class WindowEdges extends Edges {
         ReservoirReed z = linked(64, 299);
         z.offer(0, 1, 1, 0, 0, 63);
         due.same("the greatest", z.successor(0), 364);
+    }
+
+    private void successorNeedsAnOffer() {
+        ReservoirReed x = begun(2, 5);
+        x.offer(0, 1, 1, 0, 0, 3);
         promise(25, "Throws IllegalStateException if the stream has had no offers");
         due.illegalState("stream 1", () -> x.successor(1));
         x.offer(1, 8, 1, 0, 1, 4);
