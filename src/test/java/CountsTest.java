@@ -38,10 +38,6 @@ public final class CountsTest {
     }
 
     private static void compare(String what, History history, List<Call> questions) {
-        List<String> got = history.answers(questions);
-        List<String> want = history.modelAnswers(questions);
-        for (int i = 0; i < questions.size(); i++) {
-            due.same(what + ": " + questions.get(i), got.get(i), want.get(i));
-        }
+        due.sameAnswers(what, questions, history.answers(questions), history.modelAnswers(questions));
     }
 }

@@ -1,3 +1,5 @@
+import java.util.List;
+
 /** Counts the checks of a test, prints those that fail, and ends the test's program. */
 final class Due {
     // A broken rule fails in many checks: the first ones about each thing tell enough.
@@ -20,6 +22,12 @@ final class Due {
 
     void same(String what, String got, String want) {
         check(got.equals(want), what + " answered " + got + ", due is " + want);
+    }
+
+    void sameAnswers(String what, List<Call> questions, List<String> got, List<String> want) {
+        for (int i = 0; i < questions.size(); i++) {
+            same(what + ": " + questions.get(i), got.get(i), want.get(i));
+        }
     }
 
     void illegalArgument(String what, Runnable call) {

@@ -44,10 +44,4 @@ abstract class Edges {
         x.begin(size, window);
         return x;
     }
-
-    void sameAnswers(String what, List<Call> questions, List<String> got, List<String> want) {
-        for (int i = 0; i < questions.size(); i++) {
-            due.same(what + ": " + questions.get(i), got.get(i), want.get(i));
-        }
-    }
 }

@@ -251,7 +251,7 @@ final class RefusedEdges extends Edges {
         for (int stream = 0; stream <= 2; stream++) {
             List<Call> questions = Questions.all(stream, before.size());
             List<String> want = known.computeIfAbsent(name + stream, key -> before.answers(questions));
-            sameAnswers(what, questions, behind.answers(questions), want);
+            due.sameAnswers(what, questions, behind.answers(questions), want);
         }
     }
 

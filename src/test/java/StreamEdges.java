@@ -38,7 +38,7 @@ final class StreamEdges extends Edges {
         History history = History.begun(5, 9).offered(0, 121).offered(1, 120);
         for (int stream = 0; stream <= 2; stream++) {
             List<Call> questions = Questions.all(stream, 5);
-            sameAnswers("the same calls once more", questions, history.answers(questions), history.answers(questions));
+            due.sameAnswers("the same calls once more", questions, history.answers(questions), history.answers(questions));
         }
     }
 
@@ -89,10 +89,10 @@ final class StreamEdges extends Edges {
                 int other = 1 - stream;
                 List<Call> questions = Questions.all(other, 3);
                 History alone = History.begun(3, 5).offered(other, 100);
-                sameAnswers("beside offers to " + stream, questions,
+                due.sameAnswers("beside offers to " + stream, questions,
                     alone.offered(stream, count).answers(questions), alone.answers(questions));
                 History none = History.begun(3, 5);
-                sameAnswers("empty beside offers to " + stream, questions,
+                due.sameAnswers("empty beside offers to " + stream, questions,
                     none.offered(stream, count).answers(questions), none.answers(questions));
             }
         }
@@ -113,7 +113,7 @@ final class StreamEdges extends Edges {
                 List<Call> both = Questions.merged(2, k);
                 History laterFirst = History.begun(k, 8).offered(1, count[1], 7).offered(0, count[0], 8);
                 History oneStream = History.begun(k, 8).offered(0, count[0], 8).offered(0, count[1], 7);
-                sameAnswers(count[0] + " and " + count[1] + " offers, k = " + k, both,
+                due.sameAnswers(count[0] + " and " + count[1] + " offers, k = " + k, both,
                     laterFirst.answers(both), oneStream.answers(Questions.merged(0, k)));
             }
         }
@@ -295,7 +295,7 @@ final class StreamEdges extends Edges {
             History first = History.begun(5, 9).offered(0, 40).offered(1, 40);
             History again = History.begun(16, 64).offered(0, 100, 5).offered(1, 100, 6).then("begin", 5, 9)
                 .offered(0, 40).offered(1, 40);
-            sameAnswers("begin again, then offers", questions, again.answers(questions), first.answers(questions));
+            due.sameAnswers("begin again, then offers", questions, again.answers(questions), first.answers(questions));
         }
     }
 
@@ -395,8 +395,8 @@ final class StreamEdges extends Edges {
         for (int asked = 0; asked <= 2; asked++) {
             List<Call> questions = Questions.all(asked, k);
             String what = "clear(" + stream + ") behind " + count + " offers, k = " + k;
-            sameAnswers(what, questions, cleared.answers(questions), never.answers(questions));
-            sameAnswers(what + ", then offers", questions, cleared.offered(stream, 8, 99).answers(questions),
+            due.sameAnswers(what, questions, cleared.answers(questions), never.answers(questions));
+            due.sameAnswers(what + ", then offers", questions, cleared.offered(stream, 8, 99).answers(questions),
                 never.offered(stream, 8, 99).answers(questions));
         }
     }
