@@ -10,6 +10,7 @@ public final class ReservoirReed {
     private static final int MOST_ITEM = 1000000;
     private static final int MOST_WEIGHT = 1000000;
     private static final int LAST_GROUP = 3;
+    private static final int MOST_DIE = 2147483647;
     private static final int LAST_STREAM = 1;
     private static final int BOTH_STREAMS = 2;
     private static final int THRESHOLD_SHIFT = 31;
@@ -39,8 +40,8 @@ public final class ReservoirReed {
         checkArgument(item, 0, MOST_ITEM);
         checkArgument(weight, 1, MOST_WEIGHT);
         checkArgument(group, 0, LAST_GROUP);
-        checkArgument(first, 0, Integer.MAX_VALUE);
-        checkArgument(second, 0, Integer.MAX_VALUE);
+        checkArgument(first, 0, MOST_DIE);
+        checkArgument(second, 0, MOST_DIE);
         Stream taker = streamOf(stream);
         checkState(taker.taken < MOST_OFFERS);
         taker.take(item, weight, group, first, second);
